@@ -338,7 +338,8 @@ public final class ThreadWinder {
     }
 
     private static int highest(int which) {
-        return which >= 0 && which < HIGHEST.length ? HIGHEST[which] : 0;
+        // Behind the table nothing is in range: the lowest one there is 0.
+        return which >= 0 && which < HIGHEST.length ? HIGHEST[which] : -1;
     }
 
     private static boolean inRange(int which, int value) {

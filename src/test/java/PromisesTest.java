@@ -38,6 +38,7 @@ public final class PromisesTest {
         performStops();
         undoSteps();
         undoRestoresAll();
+        triedIsGone();
         keepAndRestore();
         placeTells();
         placeRibbons();
@@ -609,6 +610,37 @@ public final class PromisesTest {
         x.undo();
         due.is("no knot", x.place(0, 1), 0);
         due.is("the snapshot stays", x.restore(), 1);
+    }
+
+    private static void triedIsGone() {
+        due.about("what a call tried is gone");
+        ThreadWinder x = new ThreadWinder();
+        x.wind(2);
+        performed(x, "t3,c9,n");
+        due.is("knot() behind a stop: a whole thread", x.knot(), NONE);
+        performed(x, "t3,c9,n");
+        due.is("wind() behind a stop", x.wind(1), 1);
+        due.is("wraps", x.count(0), 3);
+        due.is("cone", x.count(1), 4970);
+        x.undo();
+        due.is("cone() behind undo()", x.cone(900), 4980);
+        x.undo();
+        due.is("doff() behind undo()", x.doff(), 2);
+        x.undo();
+        due.is("perform() behind undo()", performed(x, "c800"), 1);
+        due.is("wraps", x.count(0), 2);
+        due.is("cone", x.count(1), 800);
+        x.undo();
+        x.set(STRENGTH, 12);
+        due.is("breaksIn()", x.breaksIn(), 4);
+        due.is("breaksIn() again", x.breaksIn(), 4);
+        x.undo();
+        x.undo();
+        // In the tenth round 6 gets its 20th wrap behind the 10th of 11: 12 and 30 and 20.
+        due.is("breaksIn() of what it is then", x.breaksIn(), 211);
+        due.is("wraps", x.count(0), 0);
+        due.is("set() behind breaksIn()", x.set(WOBBLE, 1), 0);
+        due.is("wraps", x.count(0), 0);
     }
 
     private static void keepAndRestore() {
