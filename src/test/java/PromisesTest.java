@@ -831,6 +831,8 @@ public final class PromisesTest {
         due.is("all are even: the lowest", x.bestTraverse(1), 1);
         due.is("all rounds are alike: the lowest", x.bestTraverse(66), 1);
         for (int wobble = 0; wobble <= 5; wobble++) {
+            // An object is used for at most 512 calls, so each wobble has its own.
+            x = new ThreadWinder();
             x.set(WOBBLE, wobble);
             for (int turns = 1; turns <= 500; turns += 71) {
                 int best = 1;
