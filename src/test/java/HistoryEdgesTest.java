@@ -26,6 +26,7 @@ public final class HistoryEdgesTest extends Bench {
         restoreBringsAllBack();
         constantsOfErrors();
         firstErrorIsTold();
+        refusedCallsLeaveNoTrace();
         callsUpTo512();
         due.end();
     }
@@ -419,6 +420,77 @@ public final class HistoryEdgesTest extends Bench {
         due.is("wind: NONE", x.wind(500), NONE);
         due.is("perform: the fault, NOT_POSSIBLE", performed(x, "n,"), -102);
         due.is("perform: NOT_POSSIBLE", performed(x, "n"), NOT_POSSIBLE);
+    }
+
+    /** A stop, then nine wraps and a broken thread by one act, and the text of the stop again. */
+    private static void begun(ThreadWinder x) {
+        performed(x, "t2,d5,c9,n");
+        performed(x, "g9,c400");
+        x.keep();
+        write(x, "t2,d5,c9,n");
+    }
+
+    private static void acts(String behind, ToIntFunction<ThreadWinder> taken, int want) {
+        String[] names = {"set", "wind", "knot", "cone", "doff", "perform", "restore", "undo", "keep"};
+        for (int i = 0; i < names.length; i++) {
+            ThreadWinder x = new ThreadWinder();
+            ThreadWinder twin = new ThreadWinder();
+            begun(x);
+            begun(twin);
+            if (i == 1) {
+                x.knot();
+                twin.knot();
+            }
+            due.is(behind, taken.applyAsInt(x), want);
+            due.is(names[i] + " behind " + behind, oneAct(x, i), oneAct(twin, i));
+            alike(names[i] + " behind " + behind, x, twin);
+        }
+    }
+
+    private static int oneAct(ThreadWinder x, int which) {
+        switch (which) {
+            case 0:
+                return x.set(WOBBLE, 2);
+            case 1:
+                return x.wind(5);
+            case 2:
+                return x.knot();
+            case 3:
+                return x.cone(77);
+            case 4:
+                return x.doff();
+            case 5:
+                return performed(x, "c60,n,t2");
+            case 6:
+                return x.restore();
+            case 7:
+                return x.undo();
+            default:
+                return x.keep();
+        }
+    }
+
+    private static void refusedCallsLeaveNoTrace() {
+        due.about("\"changes nothing\": neither for the act that follows");
+        acts("a stop", x -> x.perform(), NOT_POSSIBLE);
+        acts("a wrong number", x -> x.set(STRENGTH, 9), BAD_VALUE);
+        acts("no turns", x -> x.wind(0), BAD_VALUE);
+        acts("a look ahead, and traverses", x -> {
+            x.breaksIn();
+            x.bestTraverse(50);
+            return x.ifTraverse(11, 300, 0);
+        }, 150);
+        due.about("\"Removes and restores the latest state\": for the act that follows");
+        acts("an act undone", x -> {
+            x.doff();
+            return Math.min(x.undo(), 1);
+        }, 1);
+        acts("two acts undone", x -> {
+            x.doff();
+            x.wind(7);
+            x.undo();
+            return Math.min(x.undo(), 1);
+        }, 1);
     }
 
     private static void callsUpTo512() {

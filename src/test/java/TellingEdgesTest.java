@@ -1,3 +1,5 @@
+import java.util.Arrays;
+
 /** The edges of what is told: promises 14 to 20, sentence by sentence. */
 public final class TellingEdgesTest extends Bench {
     public static void main(String[] args) {
@@ -454,7 +456,7 @@ public final class TellingEdgesTest extends Bench {
 
     private static int evennessOf(int[] heights) {
         int[] sorted = heights.clone();
-        java.util.Arrays.sort(sorted);
+        Arrays.sort(sorted);
         return sorted[11] - sorted[0];
     }
 

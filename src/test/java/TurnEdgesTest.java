@@ -1,3 +1,5 @@
+import java.util.Arrays;
+
 /** The edges of the package, the guide, a turn, ribbons and knots: each sentence of the terms. */
 public final class TurnEdgesTest extends Bench {
     public static void main(String[] args) {
@@ -563,9 +565,9 @@ public final class TurnEdgesTest extends Bench {
         counts(x, GOES_BACK, 0);
     }
 
-    /** A winder whose next turns lay at a place and another in turn, until that place is full. */
-    private static ThreadWinder towerAt(int place) {
-        ThreadWinder x = strong();
+    /** The next turns of a new winder lay at a place and another in turn, until that place is full. */
+    private static void beginTower(ThreadWinder x, int place) {
+        strengthen(x);
         if (place == 5) {
             step(x, 5);
         }
@@ -576,7 +578,6 @@ public final class TurnEdgesTest extends Bench {
             step(x, 1);
         }
         x.set(TRAVERSE, 11);
-        return x;
     }
 
     private static final int[] TOWERS = {0, 5, 11};
@@ -585,7 +586,8 @@ public final class TurnEdgesTest extends Bench {
     private static void packageEndsAt200() {
         due.about("\"A place that reached the height 200 ends the package\"");
         for (int i = 0; i < TOWERS.length; i++) {
-            ThreadWinder x = towerAt(TOWERS[i]);
+            ThreadWinder x = new ThreadWinder();
+            beginTower(x, TOWERS[i]);
             windTo(x, WRAPS_OF_FULL[i] - 1);
             due.is("199", x.place(TOWERS[i], HEIGHT), 199);
             counts(x, PACKAGE_FULL, 0);
@@ -607,17 +609,7 @@ public final class TurnEdgesTest extends Bench {
             int place = TOWERS[i];
             int wraps = WRAPS_OF_FULL[i];
             unchanged("wind(500), full at " + place, x -> {
-                strengthen(x);
-                if (place == 5) {
-                    step(x, 5);
-                }
-                if (place == 11) {
-                    step(x, 11);
-                    step(x, 10);
-                    step(x, 11);
-                    step(x, 1);
-                }
-                x.set(TRAVERSE, 11);
+                beginTower(x, place);
                 windTo(x, wraps);
                 x.cone(9999);
                 x.knot();
@@ -628,7 +620,8 @@ public final class TurnEdgesTest extends Bench {
 
     private static void fullPackageTakesOtherActs() {
         due.about("\"the package is full\": a thread that breaks in the last turn is knotted");
-        ThreadWinder x = towerAt(0);
+        ThreadWinder x = new ThreadWinder();
+        beginTower(x, 0);
         windTo(x, 398);
         leave(x, 9000);
         x.set(DISCS, 9);
@@ -650,8 +643,8 @@ public final class TurnEdgesTest extends Bench {
     }
 
     private static int[] repeat(int place, int times, int[] behind) {
-        int[] all = java.util.Arrays.copyOf(behind, behind.length + times);
-        java.util.Arrays.fill(all, behind.length, all.length, place);
+        int[] all = Arrays.copyOf(behind, behind.length + times);
+        Arrays.fill(all, behind.length, all.length, place);
         return all;
     }
 
